@@ -405,6 +405,12 @@ public final class PromiseTests {
             fails("doubt " + bad, INDEX, () -> x.doubt(bad));
         }
         fails("doubt 2", INDEX, () -> x.doubt(2));
+        x.save();
+        x.undo();
+        x.addListener(1, 5);
+        same("doubt of another one", x.doubt(1), 5);
+        x.restore();
+        same("doubt of the restored one", x.doubt(1), 9);
     }
 
     private static void p14() {
@@ -582,6 +588,14 @@ public final class PromiseTests {
         y.check(0, 0);
         same("a starter who is a sceptic", y.starter(0), 0);
         refusesRumours("starter", x::starter);
+        y.save();
+        y.undo();
+        y.undo();
+        y.addListener(0, 0);
+        y.startRumour(1, 0);
+        same("another starter", y.starter(0), 1);
+        y.restore();
+        same("the restored starter", y.starter(0), 0);
         fails("starter without rumours", INDEX, () -> listeners(1).starter(0));
     }
 
@@ -621,6 +635,23 @@ public final class PromiseTests {
         x.advance(5);
         same("the round stays", x.heardRound(0, 2), 8);
         refusesBoth("heardRound", x::heardRound);
+        RumourHives y = chain(0, 0);
+        y.startRumour(0, 5);
+        y.link(0, y.addListener(0, 0));
+        y.unlink(0, 1);
+        y.advance(3);
+        y.link(0, 1);
+        y.advance(1);
+        same("heard in round 3", y.heardRound(0, 1), 3);
+        y.save();
+        y.undo();
+        y.undo();
+        y.undo();
+        y.undo();
+        y.advance(1);
+        same("heard in round 0", y.heardRound(0, 1), 0);
+        y.restore();
+        same("the restored round", y.heardRound(0, 1), 3);
     }
 
     private static void p27() {
@@ -746,6 +777,9 @@ public final class PromiseTests {
         same("of a denied rumour", x.nextSpreaders(0), 0);
         same("nothing changed", rumourText(x, 0), "r0:3x++--..");
         refusesRumours("nextSpreaders", x::nextSpreaders);
+        RumourHives y = chain(0, 0, 0);
+        y.startRumour(1, 0);
+        same("the first and the last listener", y.nextSpreaders(0), 2);
         fails("nextSpreaders without rumours", INDEX, () -> listeners(1).nextSpreaders(0));
     }
 
@@ -926,6 +960,9 @@ public final class PromiseTests {
         same("he still spreads the other", x.gossipShare(), 2.0f / 3.0f);
         x.check(1, 0);
         same("a sceptic does not count", x.gossipShare(), 1.0f / 3.0f);
+        RumourHives y = listeners(1, 1);
+        y.startRumour(0, 0);
+        same("the first rumour alone", y.gossipShare(), 0.5f);
     }
 
     private static void p43() {
