@@ -1088,15 +1088,14 @@ public final class RumourHives {
 
         /** Reads all commands and returns the error position, or NONE if the script has the form. */
         int readAll() {
-            commands = 0;
             int place = 0;
-            while (commands < MAX_SCRIPT) {
+            for (int command = 0; command < MAX_SCRIPT; command++) {
                 int kind = furthestKind(place);
                 match(kind, place);
                 if (!complete) {
                     return reached;
                 }
-                keepCommand(kind);
+                keepCommand(command, kind);
                 if (reached == length) {
                     return NONE;
                 }
@@ -1108,11 +1107,11 @@ public final class RumourHives {
             return place;
         }
 
-        private void keepCommand(int kind) {
-            kinds[commands] = kind;
-            firsts[commands] = kind == ONE_ROUND ? 1 : firstNumber;
-            seconds[commands] = secondNumber;
-            commands++;
+        private void keepCommand(int command, int kind) {
+            kinds[command] = kind;
+            firsts[command] = kind == ONE_ROUND ? 1 : firstNumber;
+            seconds[command] = secondNumber;
+            commands = command + 1;
         }
 
         /**
