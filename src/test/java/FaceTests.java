@@ -121,6 +121,67 @@ public final class FaceTests {
             if (Modifier.isPublic(inside.getModifiers()) || !Modifier.isStatic(inside.getModifiers())) {
                 wrongs.add("class " + inside);
             }
+            for (Method method : inside.getDeclaredMethods()) {
+                if (publicNames.contains(method.getName())) {
+                    wrongs.add("method " + method);
+                }
+            }
+        }
+        return wrongs;
+    }
+
+    private static List<Class<?>> allClasses() {
+        List<Class<?>> classes = new ArrayList<>(List.of(RumourHives.class.getDeclaredClasses()));
+        classes.add(RumourHives.class);
+        return classes;
+    }
+
+    /** Rule 5 on static fields and what rule 11 counts. */
+    private static List<String> sizeWrongs() {
+        List<String> wrongs = new ArrayList<>();
+        if (allClasses().size() > 12) {
+            wrongs.add("there are " + allClasses().size() + " classes");
+        }
+        for (Class<?> one : allClasses()) {
+            int fields = 0;
+            for (Field field : one.getDeclaredFields()) {
+                boolean isStatic = Modifier.isStatic(field.getModifiers());
+                fields += isStatic ? 0 : 1;
+                if (isStatic && (!Modifier.isFinal(field.getModifiers()) || !field.getType().isPrimitive())) {
+                    wrongs.add("static field " + field);
+                }
+            }
+            if (fields > 20) {
+                wrongs.add(one + " has " + fields + " fields");
+            }
+            for (Method method : one.getDeclaredMethods()) {
+                if (method.getParameterCount() > 7) {
+                    wrongs.add("parameters of " + method);
+                }
+            }
+        }
+        return wrongs;
+    }
+
+    /** Rule 9: each loop counts against a bound, and its count goes up in its own lines. */
+    private static List<String> loopWrongs() {
+        List<String> wrongs = new ArrayList<>();
+        Matcher loops = Pattern.compile("(?m)^( *)((?:for|while|do)\\b.*)\n((?s:.*?))^\\1\\}").matcher(read(SOURCE));
+        Pattern counted = Pattern.compile("for \\(int (\\w+) = \\d+; \\1 <=? [^;]*; \\1\\+\\+\\) \\{");
+        Pattern bounded = Pattern.compile("while \\((\\w+) < .*");
+        int from = 0;
+        while (loops.find(from)) {
+            from = loops.end(2);
+            String head = loops.group(2);
+            Matcher whileHead = bounded.matcher(head);
+            boolean ends = counted.matcher(head).matches()
+                    || whileHead.matches() && loops.group(3).contains(" " + whileHead.group(1) + "++;");
+            if (!ends) {
+                wrongs.add("no end can be seen of " + head);
+            }
+        }
+        if (from == 0) {
+            wrongs.add("no loop was found");
         }
         return wrongs;
     }
@@ -143,6 +204,8 @@ public final class FaceTests {
         test("face", faceWrongs());
         test("hidden members", hiddenWrongs());
         test("text", textWrongs());
+        test("sizes", sizeWrongs());
+        test("loops", loopWrongs());
         System.out.println(passed + " passed, " + failed + " failed");
         if (failed != 0) {
             System.exit(1);
